@@ -906,6 +906,7 @@ public final class SubgraphDesk {
 
         final int[] bytes = new int[TAPE_MOST];
         int length;
+        int textLength;
         int from;
         int to;
         int sort;
@@ -920,24 +921,27 @@ public final class SubgraphDesk {
             }
         }
 
-        void open() {
+        /** The text is read from its first token on; the tape is empty for what is fed later. */
+        void takeText() {
+            textLength = length;
+            length = 0;
             to = 0;
             step();
         }
 
         void step() {
             from = to;
-            while (from < length && bytes[from] == BLANK) {
+            while (from < textLength && bytes[from] == BLANK) {
                 from++;
             }
             to = from;
-            sort = from < length ? sortOf(bytes[from]) : AT_END;
+            sort = from < textLength ? sortOf(bytes[from]) : AT_END;
             if (sort == SIGN) {
                 to++;
                 return;
             }
             number = 0;
-            while (to < length && sortOf(bytes[to]) == sort) {
+            while (to < textLength && sortOf(bytes[to]) == sort) {
                 number = Math.min(TOO_MUCH, number * 10 + bytes[to] - '0');
                 to++;
             }
@@ -1155,22 +1159,16 @@ public final class SubgraphDesk {
             return false;
         }
 
-        /** The tape is empty behind it, faultAt tells what was wrong. */
+        /** The tape is empty then; faultAt tells what was wrong. */
         boolean readText(boolean asOrders) {
             isOrders = asOrders;
             parts = 0;
             faultAt = NONE;
             draft.clearAll();
-            tape.open();
-            boolean good = readClauses();
-            tape.length = 0;
-            return good;
-        }
-
-        private boolean readClauses() {
+            tape.takeText();
             for (int clause = 0; clause < CLAUSES_MOST; clause++) {
-                boolean good = isOrders ? readOrder() : readRule();
-                if (!good) {
+                boolean isRead = isOrders ? readOrder() : readRule();
+                if (!isRead || !readCondition()) {
                     return false;
                 }
                 if (tape.sort == Tape.AT_END) {
@@ -1191,10 +1189,7 @@ public final class SubgraphDesk {
             }
             draft.addClause(costs ? Program.COSTS : Program.BARS);
             tape.step();
-            if (costs && !readWholeSum(Program.FIRST)) {
-                return false;
-            }
-            return readCondition();
+            return !costs || readWholeSum(Program.FIRST);
         }
 
         private boolean readOrder() {
@@ -1211,7 +1206,7 @@ public final class SubgraphDesk {
                 return fail();
             }
             tape.step();
-            return readWholeSum(Program.SECOND) && readTimes() && readCondition();
+            return readWholeSum(Program.SECOND) && readTimes();
         }
 
         private int orderSort() {
@@ -1299,7 +1294,7 @@ public final class SubgraphDesk {
                 tape.step();
                 turned = !turned;
             }
-            boolean good = tape.isSign('(') ? readInBrackets(depth) : readComparison(depth);
+            boolean good = tape.isSign('(') ? readInBrackets(depth) : readSum(depth) && readOtherSum(depth);
             if (good && turned) {
                 draft.emit(Program.NOT, 0);
             }
@@ -1321,18 +1316,9 @@ public final class SubgraphDesk {
             return true;
         }
 
-        private boolean readComparison(int depth) {
-            if (!readSum(depth)) {
-                return false;
-            }
-            int operation = NONE;
-            if (tape.isSign('<')) {
-                operation = Program.LESS;
-            } else if (tape.isSign('>')) {
-                operation = Program.MORE;
-            } else if (tape.isSign('=')) {
-                operation = Program.SAME;
-            }
+        /** What the sum that was read is compared with. */
+        private boolean readOtherSum(int depth) {
+            int operation = comparisonHere();
             if (operation == NONE) {
                 return fail();
             }
@@ -1342,6 +1328,16 @@ public final class SubgraphDesk {
             }
             draft.emit(operation, 0);
             return true;
+        }
+
+        private int comparisonHere() {
+            if (tape.isSign('<')) {
+                return Program.LESS;
+            }
+            if (tape.isSign('>')) {
+                return Program.MORE;
+            }
+            return tape.isSign('=') ? Program.SAME : NONE;
         }
 
         private boolean readSum(int depth) {
