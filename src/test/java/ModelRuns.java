@@ -1,6 +1,9 @@
 import java.util.Random;
 
-/** Long runs of drawn calls: SubgraphDesk and the naive DeskModel must answer alike. */
+/**
+ * Drawn runs: SubgraphDesk and the naive DeskModel must answer alike. Some runs are long rows of
+ * all calls, the others make a graph, a pattern and a law and then ask all that can be asked.
+ */
 public final class ModelRuns {
     private static final int CALLS = 512;
     private static final String[] NAMES = {
@@ -33,7 +36,7 @@ public final class ModelRuns {
         long goodOrders = 0;
         for (long seed = first; seed < first + runs && wrong < 3; seed++) {
             ModelRuns run = new ModelRuns(seed);
-            if (!run.runAll()) {
+            if (!(seed % 3 == 0 ? run.askAll() : run.runAll())) {
                 wrong++;
                 System.out.println("seed " + seed + ":\n" + run.told);
             }
@@ -91,6 +94,65 @@ public final class ModelRuns {
             }
         }
         return true;
+    }
+
+    /** So that a candidate, a step or a kind that is wrong in few graphs alone is met. */
+    private boolean askAll() {
+        int nodes = 3 + draw.nextInt(10);
+        int vertices = 1 + draw.nextInt(5);
+        int colours = 1 + draw.nextInt(3);
+        for (int i = 0; i < nodes; i++) {
+            same("node", draw.nextInt(colours));
+        }
+        for (int i = 0; i < vertices; i++) {
+            same("vertex", draw.nextInt(4) > 0 ? draw.nextInt(colours) : 6);
+        }
+        int density = 1 + draw.nextInt(5);
+        for (int i = 0; i < nodes * nodes; i++) {
+            if (draw.nextInt(10) < density) {
+                same("edge", i % nodes, i / nodes);
+            }
+        }
+        for (int v = 1; v < vertices; v++) {
+            if (draw.nextInt(8) > 0) {
+                same("link", v, draw.nextInt(v));
+            }
+            if (v > 1 && draw.nextInt(4) == 0) {
+                same("link", 0, v);
+            }
+        }
+        StringBuilder law = new StringBuilder("costs [node * 7 + vertex * 3 + colour] % ").append(1 + draw.nextInt(20));
+        for (int v = 0; v < vertices; v++) {
+            if (draw.nextInt(3) > 0) {
+                law.append(";bars if vertex=").append(v).append(" and [node*").append(1 + draw.nextInt(9)).append('+')
+                    .append(draw.nextInt(9)).append("]%").append(2 + draw.nextInt(5)).append('<').append(1 + draw.nextInt(2));
+            }
+        }
+        return feedText(law.toString()) >= 0 && same("law") && (draw.nextInt(3) == 0 || same("force", 0)) && askAllNow(nodes, vertices);
+    }
+
+    private boolean askAllNow(int nodes, int vertices) {
+        boolean good = same("ways") && same("once") && same("symmetries") && same("touched") && same("sets", draw.nextInt(61));
+        for (int v = -1; v < vertices && good; v++) {
+            good = same("best", v) && same("at", v, 3) && same("way", draw.nextInt(40), v) && same("onceWay", draw.nextInt(20), v);
+            for (int n = 0; n <= 9 && good; n++) {
+                good = same("candidates", v, n);
+            }
+            for (int n = 0; n < nodes && good; n++) {
+                good = same("lay", v, n, 0) && same("lay", v, n, 1);
+            }
+        }
+        for (int i = 0; i < 3 && good; i++) {
+            good = same("steps", i) && same("within", draw.nextInt(40)) && same("within", draw.nextInt(300)) && same("compare", i - 1);
+        }
+        for (int n = -1; n < nodes && good; n++) {
+            good = same("kind", n, draw.nextInt(4)) && same("kind", n, 12);
+        }
+        for (int i = 0; i < 4 && good; i++) {
+            good = same("fitting") && same("look", 0) && same("look", 1)
+                && (model.look(0) < 0 || same("seen", draw.nextInt(vertices), draw.nextInt(nodes)));
+        }
+        return good;
     }
 
     // ---- arguments

@@ -381,6 +381,10 @@ public final class PromiseTests {
         badLaw("   ", 3);
         badLaw("cost 1", 0);
         badLaw("costs", 5);
+        badLaw("costsz 1", 0);
+        badLaw("acosts 1", 0);
+        badLaw("costs 1z", 7);
+        badLaw("costs 0x1", 7);
         badLaw("costs  ", 7);
         badLaw("costs 1001", 6);
         badLaw("costs 99999999999999999999", 6);
@@ -867,6 +871,7 @@ public final class PromiseTests {
         due("candidates(1, 1)", x.candidates(1, 1), 8);
         due("candidates(0, 2): 1 is on 3 alone", x.candidates(0, 2), 20);
         due("candidates(0, 9)", x.candidates(0, 9), 20);
+        byRowOfVertices();
         due("candidates(0, 10)", x.candidates(0, 10), -1);
         due("candidates(0, -1)", x.candidates(0, -1), -1);
         due("candidates(3, 0)", x.candidates(3, 0), -1);
@@ -904,6 +909,23 @@ public final class PromiseTests {
         due("within(6)", x.within(6), 4);
         due("within(16)", x.within(16), 12);
         due("within(15)", x.within(15), 11);
+    }
+
+    /**
+     * Node 0 has edges to 1, 2, 3, and 1 has one to 4. Vertex 1 (on 4 alone) is linked to 0, that to 2.
+     * The row is 1, 0, 2, so the first pass takes 2 first, while 0 is still on 0 and 1.
+     */
+    private static void byRowOfVertices() {
+        SubgraphDesk x = desk(5, 3);
+        edges(x, 0, 1, 0, 2, 0, 3, 1, 4);
+        links(x, 0, 1, 0, 2);
+        law(x, "bars if vertex = 1 and node < 4");
+        x.force(0);
+        due("row: 1 at first", x.candidates(1, 0), 16);
+        due("row: 0 at first", x.candidates(0, 0), 3);
+        due("row: 2 behind one pass", x.candidates(2, 1), 31);
+        due("row: 0 behind one pass", x.candidates(0, 1), 2);
+        due("row: 2 behind two passes", x.candidates(2, 2), 17);
     }
 
     // ---- promise 32
@@ -1116,7 +1138,7 @@ public final class PromiseTests {
         x.terms(0, 44);
         x.terms(1, 4);
         x.terms(2, 3);
-        x.seen(1, 2);
+        x.seen(1, 1);
         due("image(2)", x.image(2), -1);
         due("image(-1)", x.image(-1), -1);
         due("image(0)", x.image(0), 0);
@@ -1134,6 +1156,7 @@ public final class PromiseTests {
         x.terms(1, 0);
         x.terms(2, 0);
         x.forget();
+        x.seen(0, 0);
         x.days(1, 3);
         int drawnThen = x.drawn(3, 1);
         orders(x, "join 0 to 0");
@@ -1163,7 +1186,7 @@ public final class PromiseTests {
         due("count(15)", x.count(15), 4);
         due("count(16)", x.count(16), 3);
         due("lay: the law", x.lay(0, 0, 0), 6);
-        due("fitting: what was seen", x.fitting(), 1);
+        due("fitting: what was seen, 0 - 1 and 2 - 1", x.fitting(), 2);
         due("undo", x.undo(), -3);
         due("fault stays", x.fault(), 6);
         due("stopped stays", x.stopped(), 0);
@@ -1190,6 +1213,17 @@ public final class PromiseTests {
         y.node(1);
         y.back(1);
         due("an image is kept anew", y.count(0), 2);
+        y = desk(1, 1);
+        y.image(0);
+        law(y, "costs 5");
+        y.force(0);
+        y.image(1);
+        y.back(0);
+        due("an image without laws", y.count(5), 0);
+        due("none in force", y.count(13), -1);
+        due("another first law", law(y, "costs 6"), 0);
+        y.back(1);
+        due("the first law of that image", y.lay(0, 0, 0), 5);
     }
 
     private static void countsAndStatus() {
