@@ -1818,6 +1818,11 @@ public final class SubgraphDesk {
                 return;
             }
             lying |= 1 << v;
+            tryAll(v, open, depth);
+            lying &= ~(1 << v);
+        }
+
+        private void tryAll(int v, int open, int depth) {
             for (int n = 0; n < board.nodes && steps < stepsMost; n++) {
                 if ((open >> n & 1) == 1) {
                     steps++;
@@ -1827,7 +1832,6 @@ public final class SubgraphDesk {
                     taken &= ~(1 << n);
                 }
             }
-            lying &= ~(1 << v);
         }
 
         private int nextVertex() {
@@ -1890,8 +1894,12 @@ public final class SubgraphDesk {
         private void extend(Board board, int depth, int used) {
             if (depth >= vertices) {
                 keepTrial();
-                return;
+            } else {
+                tryAll(board, depth, used);
             }
+        }
+
+        private void tryAll(Board board, int depth, int used) {
             for (int u = 0; u < vertices; u++) {
                 if ((used >> u & 1) == 0 && canStandFor(board, u, depth)) {
                     trial[depth] = u;
