@@ -886,6 +886,10 @@ public final class PromiseTests {
         due("steps(2)", x.steps(2), 3);
         due("steps(3)", x.steps(3), -1);
         due("steps(-1)", x.steps(-1), -1);
+        SubgraphDesk wide = desk(12, 2);
+        law(wide, "bars if vertex = 0 and node = 11");
+        wide.force(0);
+        due("steps(2): 11 and 11 behind each", wide.steps(2), 11 + 11 * 11);
         for (int search = 0; search < 3; search++) {
             due("steps without vertices", kite().steps(search), 0);
         }
