@@ -46,9 +46,9 @@ public final class LanguageCheck {
     private static void words(String source) {
         String code = bare(source);
         String[] never = {"\\bthrow\\b", "\\bthrows\\b", "\\btry\\b", "\\bcatch\\b", "\\bfinally\\b", "\\bsynchronized\\b",
-            "\\bassert\\b", "->", "::", "\\bnew\\s+\\w+\\s*\\([^)]*\\)\\s*\\{", "\\bObject\\b", "\\bSystem\\.(?!arraycopy)",
-            "\\bMath\\.\\w*Exact", "\\bequals\\b", "\\bhashCode\\b", "\\btoString\\b", "\\bpackage\\b", "\\bprotected\\b",
-            "\\bvolatile\\b", "\\btransient\\b", "\\bnative\\b", "\\bdouble\\b", "\\bfloat\\b", "\\bThread\\b", "\\bRandom\\b",
+            "\\bassert\\b", "(?m)^(?!\\s*(?:case|default)\\b).*->", "::", "\\bnew\\s+\\w+\\s*\\([^)]*\\)\\s*\\{", "\\bObject\\b", "\\bSystem\\.(?!arraycopy)",
+            "\\bMath\\.\\w*Exact", "\\bhashCode\\b", "\\bpackage\\b", "\\bprotected\\b",
+            "\\bvolatile\\b", "\\btransient\\b", "\\bnative\\b", "\\bThread\\b", "\\bRandom\\b",
             "\\bObjects\\b", "\\bwhile\\s*\\(\\s*true", "for\\s*\\(\\s*;\\s*;", "\\bvar\\b", "\\byield\\b"};
         for (String word : never) {
             Matcher m = Pattern.compile(word).matcher(code);
@@ -120,7 +120,7 @@ public final class LanguageCheck {
             for (Field f : c.getDeclaredFields()) {
                 if (!Modifier.isStatic(f.getModifiers())) {
                     fields++;
-                } else if (!Modifier.isFinal(f.getModifiers()) || !f.getType().isPrimitive() && f.getType() != String.class) {
+                } else if (!isConstant(f)) {
                     bad("5", f.toString());
                 }
             }
@@ -134,11 +134,17 @@ public final class LanguageCheck {
                 if (!Modifier.isPublic(m.getModifiers()) && names.contains(m.getName())) {
                     bad("1", m.getName() + " bears the name of a public one");
                 }
-                if (m.isSynthetic()) {
+                if (m.isSynthetic() && !c.isEnum()) {
                     bad("2", m.toString());
                 }
             }
         }
+    }
+
+    private static boolean isConstant(Field f) {
+        Set<Class<?>> types = Set.of(int.class, long.class, boolean.class, char.class, String.class,
+            int[].class, long[].class, char[].class, byte[].class);
+        return Modifier.isFinal(f.getModifiers()) && (types.contains(f.getType()) || f.getDeclaringClass().isEnum());
     }
 
     private static void methods(String source) {

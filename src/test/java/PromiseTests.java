@@ -1,17 +1,5 @@
 /** For each promise of the document: ordinary inputs, the edges that it names, wrong inputs. */
-public final class PromiseTests {
-    private static int asked;
-    private static int wrong;
-    private static int promise;
-
-    private static void due(String call, long got, long want) {
-        asked++;
-        if (got != want) {
-            wrong++;
-            System.out.println("promise " + promise + ": " + call + " answered " + got + ", due is " + want);
-        }
-    }
-
+public final class PromiseTests extends TestKit {
     public static void main(String[] args) {
         graphAndPattern();
         tapeAndRows();
@@ -23,59 +11,10 @@ public final class PromiseTests {
         likeness();
         seenAndFew();
         daysAndImages();
-        System.out.println(asked + " answers asked, " + wrong + " wrong");
-        if (wrong > 0) {
-            System.exit(1);
-        }
+        finish();
     }
 
     // ---- helpers
-
-    private static SubgraphDesk desk(int nodes, int vertices) {
-        SubgraphDesk x = new SubgraphDesk();
-        for (int i = 0; i < nodes; i++) {
-            x.node(1);
-        }
-        for (int i = 0; i < vertices; i++) {
-            x.vertex(1);
-        }
-        return x;
-    }
-
-    private static void edges(SubgraphDesk x, int... ends) {
-        for (int i = 0; i + 1 < ends.length; i += 2) {
-            x.edge(ends[i], ends[i + 1]);
-        }
-    }
-
-    private static void links(SubgraphDesk x, int... ends) {
-        for (int i = 0; i + 1 < ends.length; i += 2) {
-            x.link(ends[i], ends[i + 1]);
-        }
-    }
-
-    private static void write(SubgraphDesk x, String text) {
-        x.end(0);
-        for (int from = 0; from < text.length(); from += 20) {
-            int[] five = new int[5];
-            for (int k = 0; k < 20; k++) {
-                int sign = from + k < text.length() ? text.charAt(from + k) : 0;
-                five[k / 4] = five[k / 4] << 8 | sign;
-            }
-            x.feed(five[0], five[1], five[2], five[3], five[4]);
-        }
-        x.end(text.length());
-    }
-
-    private static int law(SubgraphDesk x, String text) {
-        write(x, text);
-        return x.law();
-    }
-
-    private static int orders(SubgraphDesk x, String text) {
-        write(x, text);
-        return x.orders();
-    }
 
     private static void badLaw(String text, int place) {
         SubgraphDesk x = new SubgraphDesk();
@@ -115,18 +54,10 @@ public final class PromiseTests {
         due("may lie by " + text, x.lay(0, 0, 1), may);
     }
 
-    private static String repeat(String part, int times) {
-        StringBuilder b = new StringBuilder();
-        for (int i = 0; i < times; i++) {
-            b.append(part);
-        }
-        return b.toString();
-    }
-
     // ---- promises 1 to 8, 18 to 19 in part
 
     private static void graphAndPattern() {
-        promise = 1;
+        at("promise 1");
         SubgraphDesk x = new SubgraphDesk();
         for (int what = 0; what <= 12; what++) {
             due("count(" + what + ") at first", x.count(what), 0);
@@ -138,7 +69,7 @@ public final class PromiseTests {
         due("status at first", x.status(), 0);
         due("NONE", SubgraphDesk.NONE, -1);
 
-        promise = 2;
+        at("promise 2");
         due("node(-1)", x.node(-1), -1);
         due("node(6)", x.node(6), -1);
         for (int i = 0; i < 12; i++) {
@@ -149,7 +80,7 @@ public final class PromiseTests {
         due("count(0)", x.count(0), 12);
         due("of(11, 0)", x.of(11, 0), 5);
 
-        promise = 3;
+        at("promise 3");
         due("vertex(-1)", x.vertex(-1), -1);
         due("vertex(7)", x.vertex(7), -1);
         for (int i = 0; i < 5; i++) {
@@ -159,7 +90,7 @@ public final class PromiseTests {
         due("vertex(7), the 6th", x.vertex(7), -1);
         due("at(4, 0)", x.at(4, 0), 6);
 
-        promise = 4;
+        at("promise 4");
         edges(x, 3, 0, 3, 11, 3, 5);
         due("of(3, 0)", x.of(3, 0), 3);
         due("of(3, 1)", x.of(3, 1), 3);
@@ -171,7 +102,7 @@ public final class PromiseTests {
         due("of(12, 0)", x.of(12, 0), -1);
         due("of(-1, 0)", x.of(-1, 0), -1);
 
-        promise = 5;
+        at("promise 5");
         x = new SubgraphDesk();
         x.vertex(1);
         x.vertex(1);
@@ -193,7 +124,7 @@ public final class PromiseTests {
         due("at(0, 4)", x.at(0, 4), -1);
         due("at(0, -1)", x.at(0, -1), -1);
 
-        promise = 6;
+        at("promise 6");
         x = desk(2, 1);
         x.node(2);
         due("lay(0, 0, 0)", x.lay(0, 0, 0), 1);
@@ -215,7 +146,7 @@ public final class PromiseTests {
         due("lay(0, 0, 2)", x.lay(0, 0, 2), -1);
         due("lay(0, 0, -1)", x.lay(0, 0, -1), -1);
 
-        promise = 7;
+        at("promise 7");
         x = desk(12, 0);
         edges(x, 11, 10, 0, 1, 5, 3);
         due("came(0)", x.came(0), 12 * 10 + 11);
@@ -229,7 +160,7 @@ public final class PromiseTests {
         x.edge(1, 0);
         due("came(2): it came again", x.came(2), 1);
 
-        promise = 8;
+        at("promise 8");
         due("terms(0, 999)", x.terms(0, 999), 0);
         due("terms(0, 999)", x.terms(0, 999), 999);
         due("terms(1, 10)", x.terms(1, 10), 1);
@@ -249,7 +180,7 @@ public final class PromiseTests {
     // ---- promises 9 to 12
 
     private static void tapeAndRows() {
-        promise = 9;
+        at("promise 9");
         SubgraphDesk x = desk(12, 0);
         for (int i = 1; i <= 20; i++) {
             due("feed", x.feed(0, 0, 0, 0, 0), 20 * i);
@@ -270,7 +201,7 @@ public final class PromiseTests {
         due("row of bytes of 255", x.row(), 0);
         due("smudges of bytes of 255", x.smudges(), 10);
 
-        promise = 10;
+        at("promise 10");
         x = desk(3, 0);
         due("end(0)", x.end(0), 0);
         due("end(1)", x.end(1), -1);
@@ -282,7 +213,7 @@ public final class PromiseTests {
         due("end(8)", x.end(8), -1);
         due("count(7)", x.count(7), 7);
 
-        promise = 11;
+        at("promise 11");
         x = desk(4, 0);
         due("row of nothing", x.row(), -6);
         due("status", x.status(), -6);
@@ -294,7 +225,7 @@ public final class PromiseTests {
         due("the tape behind row()", x.count(7), 0);
         due("nothing ahead of row() can be undone", x.undo(), -3);
 
-        promise = 12;
+        at("promise 12");
         due("smudges", x.smudges(), 5);
         due("row of nothing", x.row(), -6);
         due("smudges stay", x.smudges(), 5);
@@ -307,7 +238,7 @@ public final class PromiseTests {
     // ---- promises 13, 15, 17 and the language
 
     private static void laws() {
-        promise = 13;
+        at("promise 13");
         costs("costs 5", 5);
         costs("bars if 1 = 2", 1);
         costs("costs 99", 99);
@@ -375,7 +306,7 @@ public final class PromiseTests {
         due("fault: it was not read", x.fault(), -1);
         due("count(5)", x.count(5), 6);
 
-        promise = 15;
+        at("promise 15");
         due("fault ahead of any", new SubgraphDesk().fault(), -1);
         badLaw("", 0);
         badLaw("   ", 3);
@@ -436,7 +367,7 @@ public final class PromiseTests {
         orders(x, "join 0 to 1");
         due("fault of orders that can't be", x.fault(), -1);
 
-        promise = 17;
+        at("promise 17");
         x = desk(1, 1);
         due("force(0)", x.force(0), -2);
         due("force(-2)", x.force(-2), -2);
@@ -460,7 +391,7 @@ public final class PromiseTests {
     // ---- promises 14, 16
 
     private static void orders() {
-        promise = 14;
+        at("promise 14");
         SubgraphDesk x = desk(4, 3);
         due("orders", orders(x, "join 0 to 1; join 3 to [1 + 1]; tie 0 to 2"), 3);
         due("came(1)", x.came(1), 27);
@@ -509,7 +440,7 @@ public final class PromiseTests {
             x.paint(0, 3);
             x.paint(0, 1);
             x.edge(1, 2);
-            promise = 14;
+            at("promise 14");
             due(text, orders(x, "join 0 to 1; tie 0 to 1; paint 1 as 0; dye 1 as 0; join 1 to 2;" + text), -3);
             due("status", x.status(), -3);
             due("edges behind " + text, x.count(2) * 100 + x.came(0), 100 + 14);
@@ -518,7 +449,7 @@ public final class PromiseTests {
             due("what can be undone behind " + text, x.count(6), 3);
             due("undo behind " + text, x.undo(), 0);
             due("undo behind " + text, x.undo(), 2);
-            promise = 16;
+            at("promise 16");
             due("stopped of " + text, x.stopped(), 5);
             orders(x, "join 0 to");
             due("stopped of a text that can't be", x.stopped(), -1);
@@ -532,7 +463,7 @@ public final class PromiseTests {
         orders(x, "paint 0 as 4");
         due("stopped of what was done", x.stopped(), -1);
 
-        promise = 14;
+        at("promise 14");
         x = desk(12, 0);
         for (int i = 0; i < 15; i++) {
             x.paint(0, i % 2 == 0 ? 2 : 3);
@@ -542,7 +473,7 @@ public final class PromiseTests {
         due("undo", x.undo(), 2);
         due("of(0, 0)", x.of(0, 0), 3);
 
-        promise = 15;
+        at("promise 15");
         badOrders("", 0);
         badOrders("  ", 2);
         badOrders("join 0", 6);
@@ -574,7 +505,7 @@ public final class PromiseTests {
     // ---- promises 18 to 22
 
     private static void acts() {
-        promise = 18;
+        at("promise 18");
         SubgraphDesk x = desk(3, 0);
         due("edge(0, 2)", x.edge(0, 2), 1);
         due("edge(2, 0)", x.edge(2, 0), 0);
@@ -585,7 +516,7 @@ public final class PromiseTests {
         due("edge(0, 3)", x.edge(0, 3), -2);
         due("status", x.status(), -2);
 
-        promise = 19;
+        at("promise 19");
         x = desk(0, 3);
         due("link(0, 2)", x.link(0, 2), 1);
         due("at(2, 2)", x.at(2, 2), 1);
@@ -597,7 +528,7 @@ public final class PromiseTests {
         due("link(-1, 1)", x.link(-1, 1), -2);
         due("link(0, 3)", x.link(0, 3), -2);
 
-        promise = 20;
+        at("promise 20");
         x = desk(2, 2);
         due("paint(0, 5)", x.paint(0, 5), 1);
         due("paint(0, 0)", x.paint(0, 0), 5);
@@ -608,7 +539,7 @@ public final class PromiseTests {
         due("paint(2, -1)", x.paint(2, -1), -1);
         due("of(0, 0)", x.of(0, 0), 0);
 
-        promise = 21;
+        at("promise 21");
         due("dye(1, 6)", x.dye(1, 6), 1);
         due("dye(1, 6)", x.dye(1, 6), -3);
         due("dye(1, 0)", x.dye(1, 0), 6);
@@ -618,7 +549,7 @@ public final class PromiseTests {
         due("dye(0, -1)", x.dye(0, -1), -1);
         due("at(1, 0)", x.at(1, 0), 0);
 
-        promise = 22;
+        at("promise 22");
         due("count(6)", x.count(6), 4);
         due("undo of dye", x.undo(), 3);
         due("at(1, 0)", x.at(1, 0), 6);
@@ -702,7 +633,7 @@ public final class PromiseTests {
     }
 
     private static void waysAndOnce() {
-        promise = 23;
+        at("promise 23");
         SubgraphDesk x = new SubgraphDesk();
         due("ways() of nothing", x.ways(), 1);
         x.vertex(1);
@@ -734,7 +665,7 @@ public final class PromiseTests {
         due("sets(8): 0 1 2 3 and another", x.sets(8), 8);
         due("sets(9): 0 1 2 4 3 again", x.sets(9), 8);
 
-        promise = 24;
+        at("promise 24");
         x = kite();
         x.vertex(1);
         x.vertex(6);
@@ -751,7 +682,7 @@ public final class PromiseTests {
         due("way(0, 2)", x.way(0, 2), -1);
         due("way(0, -1)", x.way(0, -1), -1);
 
-        promise = 25;
+        at("promise 25");
         x = kite();
         due("once() without vertices", x.once(), 1);
         x.vertex(1);
@@ -772,7 +703,7 @@ public final class PromiseTests {
         due("ways()", x.ways(), 4);
         due("once(): rows that are no ways aside", x.once(), 3);
 
-        promise = 26;
+        at("promise 26");
         due("onceWay(0, 0)", x.onceWay(0, 0) * 10 + x.onceWay(0, 1), 20);
         due("onceWay(1, 0)", x.onceWay(1, 0) * 10 + x.onceWay(1, 1), 21);
         due("onceWay(2, 0)", x.onceWay(2, 0) * 10 + x.onceWay(2, 1), 23);
@@ -782,7 +713,7 @@ public final class PromiseTests {
         due("onceWay(0, -1)", x.onceWay(0, -1), -1);
         due("onceWay of an empty pattern", kite().onceWay(0, 0), -1);
 
-        promise = 27;
+        at("promise 27");
         x = desk(0, 4);
         due("symmetries(): no links", x.symmetries(), 24);
         links(x, 0, 1, 1, 2, 2, 3);
@@ -795,7 +726,7 @@ public final class PromiseTests {
         due("symmetries(): two of any colour", x.symmetries(), 4);
         due("symmetries(): without vertices", new SubgraphDesk().symmetries(), 1);
 
-        promise = 28;
+        at("promise 28");
         x = kite();
         due("best(-1) without vertices", x.best(-1), 0);
         due("best(0) without vertices", x.best(0), -1);
@@ -817,7 +748,7 @@ public final class PromiseTests {
         due("best(-1): no way", x.best(-1), -1);
         due("best(0): no way", x.best(0), -1);
 
-        promise = 40;
+        at("promise 40");
         due("compare(-1)", x.compare(-1), 2);
         due("compare(0)", x.compare(0), 10);
         due("compare(1)", x.compare(1), -1);
@@ -825,7 +756,7 @@ public final class PromiseTests {
         due("compare(-2)", x.compare(-2), -1);
         due("count(13): it stays in force", x.count(13), 1);
 
-        promise = 33;
+        at("promise 33");
         x = kite();
         due("sets(0)", x.sets(0), 0);
         due("sets(1) without vertices", x.sets(1), 1);
@@ -839,7 +770,7 @@ public final class PromiseTests {
         due("sets(61)", x.sets(61), -1);
         due("sets(-1)", x.sets(-1), -1);
 
-        promise = 34;
+        at("promise 34");
         due("touched()", x.touched(), 15);
         x.dye(1, 2);
         due("touched()", x.touched(), 24);
@@ -851,7 +782,7 @@ public final class PromiseTests {
     // ---- promises 29 to 31
 
     private static void searches() {
-        promise = 29;
+        at("promise 29");
         SubgraphDesk x = desk(6, 3);
         edges(x, 0, 1, 1, 2, 2, 3, 3, 4);
         links(x, 0, 1, 1, 2);
@@ -877,7 +808,7 @@ public final class PromiseTests {
         due("candidates(3, 0)", x.candidates(3, 0), -1);
         due("candidates(-1, 0)", x.candidates(-1, 0), -1);
 
-        promise = 30;
+        at("promise 30");
         // 0 on 1 .. 5; 1 behind these on 2; 1, 3; 2, 4; 3; none; 2 on 4 behind 2 - 3 alone
         due("steps(0)", x.steps(0), 5 + 6 + 1);
         // 0 on 2, 4; 1 on 3 both times; 2 on 4 behind 2 - 3 alone
@@ -894,7 +825,7 @@ public final class PromiseTests {
             due("steps without vertices", kite().steps(search), 0);
         }
 
-        promise = 31;
+        at("promise 31");
         due("within(2)", x.within(2), 0);
         due("within(3)", x.within(3), 1);
         due("within(9999)", x.within(9999), 1);
@@ -935,7 +866,7 @@ public final class PromiseTests {
     // ---- promise 32
 
     private static void likeness() {
-        promise = 32;
+        at("promise 32");
         SubgraphDesk x = new SubgraphDesk();
         due("kind(-1, 0) without nodes", x.kind(-1, 0), 0);
         due("kind(0, 0) without nodes", x.kind(0, 0), -1);
@@ -962,7 +893,7 @@ public final class PromiseTests {
     // ---- promises 35 to 39
 
     private static void seenAndFew() {
-        promise = 35;
+        at("promise 35");
         SubgraphDesk x = kite();
         x.vertex(1);
         x.vertex(6);
@@ -980,13 +911,13 @@ public final class PromiseTests {
         due("seen(9, 9)", x.seen(9, 9), -2);
         due("count(4)", x.count(4), 6);
 
-        promise = 36;
+        at("promise 36");
         due("forget()", x.forget(), 6);
         due("forget()", x.forget(), 0);
         due("count(4)", x.count(4), 0);
         due("fitting() behind it", x.fitting(), 9);
 
-        promise = 37;
+        at("promise 37");
         x.seen(0, 2);
         due("fitting(): 2 to 0, 1, 3", x.fitting(), 3);
         due("ways(): as many as ever", x.ways(), 9);
@@ -996,7 +927,7 @@ public final class PromiseTests {
         due("fitting(): both can't be", x.fitting(), 0);
         due("fitting() without vertices", kite().fitting(), 1);
 
-        promise = 38;
+        at("promise 38");
         due("look(0): none is fitting", x.look(0), -1);
         due("look(1): none is fitting", x.look(1), -1);
         x.forget();
@@ -1011,7 +942,7 @@ public final class PromiseTests {
         due("look(0) without vertices", kite().look(0), -1);
         due("look(1) without vertices", kite().look(1), -1);
 
-        promise = 39;
+        at("promise 39");
         x = new SubgraphDesk();
         due("few(1, 0)", x.few(1, 0), 1_000_000_000_000L);
         due("few(1, 1)", x.few(1, 1), 900_000_000_000L);
@@ -1046,7 +977,7 @@ public final class PromiseTests {
     // ---- promises 41 to 46
 
     private static void daysAndImages() {
-        promise = 41;
+        at("promise 41");
         SubgraphDesk x = new SubgraphDesk();
         due("days(0, 1) without nodes", x.days(0, 1), -3);
         due("days(-1, 1) without nodes", x.days(-1, 1), -1);
@@ -1072,7 +1003,7 @@ public final class PromiseTests {
         due("days at the end of TIME", x.days(123, 60), 1);
         due("drawn", x.drawn(0, 1), 2);
 
-        promise = 42;
+        at("promise 42");
         x.edge(2, 3);
         x.node(1);
         due("drawn: as it was then", x.drawn(2, 1), 0);
@@ -1132,7 +1063,7 @@ public final class PromiseTests {
     }
 
     private static void images() {
-        promise = 43;
+        at("promise 43");
         SubgraphDesk x = desk(3, 2);
         edges(x, 0, 1, 1, 2);
         x.link(0, 1);
@@ -1172,7 +1103,7 @@ public final class PromiseTests {
         x.edge(1, 3);
         due("image(1)", x.image(1), 0);
 
-        promise = 44;
+        at("promise 44");
         due("back(2)", x.back(2), -1);
         due("back(-1)", x.back(-1), -1);
         due("back(0)", x.back(0), 0);
@@ -1231,7 +1162,7 @@ public final class PromiseTests {
     }
 
     private static void countsAndStatus() {
-        promise = 45;
+        at("promise 45");
         SubgraphDesk x = new SubgraphDesk();
         due("count(17)", x.count(17), -1);
         due("count(-1)", x.count(-1), -1);
@@ -1282,7 +1213,7 @@ public final class PromiseTests {
         due("images do not keep what was refused", x.count(12), 3);
         due("count(13)", x.count(13), -1);
 
-        promise = 46;
+        at("promise 46");
         x = new SubgraphDesk();
         due("status ahead of any", x.status(), 0);
         x.node(9);

@@ -1,25 +1,28 @@
 import java.lang.management.ManagementFactory;
 
-/** What a whole run makes stays small: all of its calls live in one room that is never swept. */
+/** What a run of 512 dear calls makes fits into the room in which all calls of a run live, never swept. */
 public final class RoomCheck {
-    private static final long BYTES_A_DESK = 40_000;
-    private static final long BYTES_A_RUN = 400_000;
+    /** The room has some 600,000 objects and arrays, 7.3 million fields and elements in all. */
+    private static final long BYTES_IN_THE_ROOM = 600_000L * 16 + 7_300_000L * 4;
+    private static final String DEAR_LAW =
+        "costs node + vertex + colour + degree if not (links = 2 or mood > 3); bars if node = 11 and vertex = 0";
 
-    private static int law(SubgraphDesk x, String text) {
+    private static int calls;
+
+    private static void law(SubgraphDesk x) {
         x.end(0);
-        for (int from = 0; from < text.length(); from += 20) {
-            int[] five = new int[5];
-            for (int k = 0; k < 20; k++) {
-                int sign = from + k < text.length() ? text.charAt(from + k) : 0;
-                five[k / 4] = five[k / 4] << 8 | sign;
-            }
+        for (int from = 0; from < DEAR_LAW.length(); from += 20) {
+            int[] five = TestKit.packed(DEAR_LAW, from);
             x.feed(five[0], five[1], five[2], five[3], five[4]);
+            calls++;
         }
-        x.end(text.length());
-        return x.law();
+        x.end(DEAR_LAW.length());
+        x.law();
+        x.force(x.count(5) - 1);
+        calls += 5;
     }
 
-    private static long now() {
+    private static long made() {
         com.sun.management.ThreadMXBean bean = (com.sun.management.ThreadMXBean) ManagementFactory.getThreadMXBean();
         return bean.getThreadAllocatedBytes(Thread.currentThread().getId());
     }
@@ -33,13 +36,16 @@ public final class RoomCheck {
             x.vertex(6);
         }
         x.image(0);
-        for (int i = 0; i < 20; i++) {
-            law(x, "costs node + vertex + colour + degree if not (links = 2 or mood > 3); bars if node = 11 and vertex = 0");
-            x.force(x.count(5) - 1);
+        calls = 18;
+        for (int i = 0; calls + 29 <= TestKit.CALLS_MOST; i++) {
+            law(x);
             x.once();
             x.onceWay(400, 1);
+            x.way(90_000, 1);
             x.best(-1);
+            x.steps(1);
             x.steps(2);
+            x.within(9_999);
             x.sets(60);
             x.look(0);
             x.compare(0);
@@ -48,19 +54,17 @@ public final class RoomCheck {
             x.kind(-1, 12);
             x.image(1);
             x.back(i % 5 == 4 ? 0 : 1);
+            calls += 15;
         }
     }
 
     public static void main(String[] args) {
         dearRun();
-        long before = now();
-        SubgraphDesk x = new SubgraphDesk();
-        long desk = now() - before;
-        before = now();
+        long before = made();
         dearRun();
-        long run = now() - before;
-        System.out.println("a desk takes " + desk + " bytes, a dear run " + run + ", ways " + x.ways());
-        if (desk > BYTES_A_DESK || run > BYTES_A_RUN) {
+        long run = made() - before;
+        System.out.println("a run of " + calls + " dear calls makes " + run + " bytes");
+        if (run > BYTES_IN_THE_ROOM) {
             System.out.println("that is too much");
             System.exit(1);
         }
