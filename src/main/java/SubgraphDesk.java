@@ -1004,7 +1004,8 @@ public final class SubgraphDesk {
         static final int OPERAND_BITS = 12;
 
         static final long VALUE_MOST = 1_000_000_000L;
-        static final long BROKEN = Long.MIN_VALUE;
+        /** Just beyond all that a sum may come to. */
+        static final long BROKEN = -VALUE_MOST - 1;
 
         int clauses;
         int length;

@@ -271,7 +271,9 @@ final class ActBoundaries extends TestKit {
                 due(x, told[i], "came", i);
             }
             due(x, -1, "came", 4);
-            due(x, 10, "of", 0, 2);
+            for (int n = 0; n < 4; n++) {
+                due(x, n % 2 == 0 ? 10 : 5, "of", n, 2);
+            }
         }
     }
 
@@ -342,6 +344,55 @@ final class ActBoundaries extends TestKit {
         due(x, 4, "of", 0, 0);
         due(x, 0, "count", 2);
         due(x, 0, "count", 3);
+    }
+
+    static void p22_eachOfSeventeenOnAnotherNode() {
+        sentence("(by ORDERS, too; 16 are kept)");
+        SubgraphDesk x = desk(12, 5);
+        edges(x, 2, 7, 0, 1);
+        for (int n = 0; n < 11; n++) {
+            ask(x, "paint", n, n % 6 == 1 ? 5 : n % 6);
+        }
+        for (int v = 0; v < 5; v++) {
+            ask(x, "dye", v, v == 1 ? 6 : v);
+        }
+        for (int v = 4; v >= 0; v--) {
+            due(x, 3, "undo");
+            due(x, 1, "at", v, 0);
+        }
+        for (int n = 10; n >= 0; n--) {
+            due(x, n % 6 == 1 ? 5 : n % 6, "of", n, 0);
+            due(x, 2, "undo");
+            due(x, 1, "of", n, 0);
+        }
+        due(x, -3, "undo");
+        due(x, 31, "came", 0);
+        due(x, 1, "came", 1);
+    }
+
+    static void p22_oneUndoneLeavesTheOthersOfItsNumber() {
+        sentence("(EDGES, their order, LINKS, COLOURS are as they were)");
+        SubgraphDesk x = desk(2, 2);
+        edges(x, 0, 1);
+        ask(x, "dye", 0, 5);
+        ask(x, "paint", 0, 3);
+        due(x, 2, "undo");
+        due("undo of paint leaves the vertex", ask(x, "at", 0, 0), 5);
+        ask(x, "paint", 0, 4);
+        ask(x, "dye", 0, 0);
+        due(x, 3, "undo");
+        due("undo of dye leaves the node", ask(x, "of", 0, 0), 4);
+        links(x, 0, 1);
+        due(x, 1, "undo");
+        due("undo of link leaves the colours", ask(x, "of", 0, 0) * 10 + ask(x, "at", 0, 0), 45);
+        due(x, 1, "count", 2);
+        edges(x, 0, 1);
+        links(x, 0, 1, 0, 1, 0, 1);
+        ask(x, "undo");
+        ask(x, "undo");
+        ask(x, "undo");
+        due(x, 0, "undo");
+        due("undo of edge leaves the links", ask(x, "count", 3) * 10 + ask(x, "count", 2), 1);
     }
 
     static void p22_byOrdersToo() {

@@ -343,7 +343,9 @@ final class GraphBoundaries extends TestKit {
         due(x, 1, "at", 1, 3);
         due(x, 0, "at", 2, 3);
         links(x, 0, 1);
-        due(x, 2 + 4, "at", 0, 3);
+        due("all three are linked", ask(x, "at", 0, 3), 2 + 4);
+        due(x, 1 + 4, "at", 1, 3);
+        due(x, 1 + 2, "at", 2, 3);
     }
 
     static void p05_oneLinkMoreIsNoTwin() {

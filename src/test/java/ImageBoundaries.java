@@ -382,6 +382,40 @@ final class ImageBoundaries extends TestKit {
         due(x, -1, "compare", 1);
     }
 
+    static void p44_theFirstLawComesRoundAgain() {
+        sentence("BACK to one all that it keeps is as it was then");
+        SubgraphDesk x = desk(1, 1);
+        ask(x, "image", 0);
+        due("law", law(x, "costs 11"), 0);
+        ask(x, "image", 1);
+        ask(x, "back", 0);
+        due(x, -1, "compare", 0);
+        due("another first law", law(x, "costs 12"), 0);
+        due(x, 12, "compare", 0);
+        ask(x, "back", 1);
+        due(x, 11, "compare", 0);
+    }
+
+    static void p44_backToTheEmptyPatternBehindAWay() {
+        sentence("BACK to one all that it keeps is as it was then");
+        SubgraphDesk x = desk(4, 0);
+        ask(x, "image", 0);
+        for (int v = 0; v < 3; v++) {
+            ask(x, "vertex", 1);
+        }
+        ask(x, "image", 1);
+        for (String name : new String[] {"ways", "once", "fitting", "symmetries"}) {
+            ask(x, "back", 1);
+            due(x, 1, "way", 0, 1);
+            ask(x, "back", 0);
+            due(x, 1, name);
+            due(x, 0, "touched");
+            due(x, 1, "sets", 60);
+            due(x, 0, "best", -1);
+            due(x, 0, "steps", 0);
+        }
+    }
+
     static void p44_fullGraphAndPattern() {
         sentence("BACK to one all that it keeps is as it was then");
         SubgraphDesk x = desk(12, 5);

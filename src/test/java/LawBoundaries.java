@@ -176,6 +176,16 @@ final class LawBoundaries extends TestKit {
         due(x, 1, "lay", 0, 1, 1);
     }
 
+    static void p13_aBrokenClauseBreaksNoOther() {
+        sentence("A CLAUSE HOLDS, if its \"if\" (if it has one) is so, and neither that nor its SUM is BROKEN.");
+        costs("costs 5 / 0; costs 4", 4);
+        costs("costs 5 % 0 if 1 = 1; costs 4 if 1 = 1", 4);
+        costs("costs 3 if 1 / 0 = 1; costs 4 if 1 = 1", 4);
+        costs("costs 3; costs 5 if 1 / 0 = 1; bars if 1 / 0 = 1; costs 4 if 1 = 1; costs 6 / 0", 4);
+        costs("costs 3 if 1 = 2 and 1 = 2; costs 4 if 1 = 1", 4);
+        costs("costs 3 if 1 = 1 or 1 = 2; costs 4 if 1 = 2", 3);
+    }
+
     static void p13_oneOfManyThatBarsIsEnough() {
         sentence("it is BARRED, if \"bars\" HOLDS.");
         SubgraphDesk x = desk(1, 1);
@@ -268,6 +278,10 @@ final class LawBoundaries extends TestKit {
         fault("Costs 7", 0);
         fault("costs a", 6);
         fault("costs z", 6);
+        fault("costsz 1", 0);
+        fault("costsa 1", 0);
+        fault("zcosts 1", 0);
+        fault("costs nodez", 6);
         costs("costs 0", 0);
         costs("costs 9", 9);
     }
@@ -317,6 +331,19 @@ final class LawBoundaries extends TestKit {
         String twelve = repeat("costs 3 if 1+1=2;", 11) + "costs 4 if 1=1*[1*1*1";
         costs(twelve + "]", 4);
         fault(twelve + "*1]", twelve.length() + 1);
+    }
+
+    static void p13_eachTextHasItsOwnFifty() {
+        sentence("50 PARTS that are NUMBERS and words (FAULT at the 51st)");
+        SubgraphDesk x = desk(1, 1);
+        for (int i = 0; i < 3; i++) {
+            due("a law of fifty parts", law(x, "costs 1" + repeat("+1", 49)), i);
+            due("one of 51", law(x, "costs 1" + repeat("+1", 50)), -6);
+            due("orders of fifty", orders(x, "paint 0 as 1" + repeat("*1", 48)), -3);
+            due("twelve clauses", law(x, repeat("bars;", 11) + "bars if 1 = 2 if"), -6);
+        }
+        ask(x, "force", 2);
+        due(x, 50, "lay", 0, 0, 0);
     }
 
     static void p13_eightBracketsWithinOneAnother() {
@@ -407,6 +434,13 @@ final class LawBoundaries extends TestKit {
         isNotSo("2 = 3");
         isSo("0 - 1 < 0");
         isSo("not 2 < 2");
+        isSo("not 3 < 2");
+        isSo("not 2 > 2");
+        isSo("not 2 > 3");
+        isSo("not 2 = 3");
+        isSo("not (not (2 = 2))");
+        isNotSo("not (not (2 = 3))");
+        isSo("not (not (not (2 > 3)))");
         isSo("not not 2 = 2");
         isNotSo("not not not 2 = 2");
         isSo("not (1 = 2)");
@@ -435,6 +469,10 @@ final class LawBoundaries extends TestKit {
         sentence("(\"or\", \"and\" ask what stands behind only if it can still matter");
         isSo("1 = 1 or 1 / 0 = 1");
         isSo("not (1 = 2 and 1 / 0 = 1)");
+        isSo("not (2 < 1 and 1 / 0 = 1)");
+        isSo("not (1 > 2 and 1 / 0 = 1)");
+        isSo("not (not 1 = 1 and 1 / 0 = 1)");
+        isSo("not 1 = 2 or 1 / 0 = 1");
         isSo("1 = 1 or 1 = 1 and 1 / 0 = 1 or 1 / 0 = 1");
         isSo("1 = 2 and 1 / 0 = 1 or 1 = 1");
         isSo("1 = 2 or 1 = 1 or 1 / 0 = 1");
@@ -505,6 +543,11 @@ final class LawBoundaries extends TestKit {
     static void p15_whereAClauseCantGoOn() {
         sentence("FAULT: the first TOKEN that can't go on there");
         fault("bar", 0);
+        fault("barz", 0);
+        fault("cars", 0);
+        fault("mosts 1", 0);
+        fault("costs mode", 6);
+        fault("costs node of 1", 11);
         fault("bars 1", 5);
         fault("costs if 1 = 1", 6);
         fault("costs 1 else", 8);
@@ -524,7 +567,14 @@ final class LawBoundaries extends TestKit {
         fault("costs + 1", 6);
         fault("costs 1 + + 1", 10);
         fault("costs 1 * / 1", 10);
+        fault("costs 1 +; bars", 9);
+        fault("costs 1 *", 9);
+        fault("costs 1 %; bars", 9);
+        fault("costs [", 7);
+        fault("costs [; bars", 7);
+        fault("costs [1 -", 10);
         fault("costs [1", 8);
+        fault("costs [1; bars", 8);
         fault("costs [1)", 8);
         fault("costs [1 = 1]", 9);
         fault("costs []", 7);
@@ -540,7 +590,17 @@ final class LawBoundaries extends TestKit {
         fault("bars if", 7);
         fault("bars if not", 11);
         fault("bars if 1 = 1 and", 17);
+        fault("bars if 1 = 1 and; bars", 17);
+        fault("bars if 1 = 1 or", 16);
+        fault("bars if 1 = 1 or; bars", 16);
         fault("bars if 1 = 1 or and", 17);
+        fault("bars if 1 =", 11);
+        fault("bars if 1 =; bars", 11);
+        fault("bars if (", 9);
+        fault("bars if (; bars", 9);
+        fault("bars if (1 = 1 or", 17);
+        fault("bars if ; bars", 8);
+        fault("bars if 1 +", 11);
         fault("bars if 1 = 1 not 1 = 1", 14);
         fault("bars if 1 = 1 = 1", 14);
         fault("bars if 1 < = 1", 12);

@@ -124,6 +124,25 @@ final class OrderBoundaries extends TestKit {
         run("join 0 to 0 if 1000 * 1000 * 1000 + 1 > 0", 0);
     }
 
+    static void p14_aBrokenIfBreaksNoOther() {
+        sentence("(not run, if it is not so or BROKEN)");
+        run("join 0 to 1 if 1 / 0 = 1; join 0 to 1 if 1 = 1", 1);
+        run("join 0 / 0 to 1 % 0 if 1 = 2; join 0 to 1", 1);
+        SubgraphDesk x = run("join 0 to 0 if 1 % 0 = 1; join 2 + 1 to 1 + 1 if 1 = 2 or 3 = 3; paint 4 - 1 as 2 * 2", 2);
+        due(x, 27, "came", 0);
+        due(x, 4, "of", 3, 0);
+    }
+
+    static void p14_manyTextsOneBehindTheOther() {
+        sentence("ORDERS, the TAPE is empty then");
+        SubgraphDesk x = desk(4, 3);
+        String text = "join 0" + repeat("*1", 20) + " to 1" + repeat("*1", 20) + " if 1 = 1 or 1 = 2";
+        for (int i = 1; i <= 24; i++) {
+            due("orders", orders(x, text), 1);
+            due(x, i % 2, "count", 2);
+        }
+    }
+
     static void p14_doneInThisText() {
         sentence("done: how many were run in this TEXT");
         SubgraphDesk x = run("join 0 to done + 1; join 0 to done + 1; paint 0 as 0 if 1 = 2; paint 0 as done", 3);
@@ -342,7 +361,8 @@ final class OrderBoundaries extends TestKit {
         write(x, "join 0 to 1 times 19; join 1 to 2; join 2 to 2");
         refusedText(x, -3, "orders");
         due(x, 2, "stopped");
-        for (int i = 0; i < 14; i++) {
+        for (int i = 13; i >= 0; i--) {
+            due(x, i % 6 == 1 ? 4 : i % 6, "of", 0, 0);
             due(x, 2, "undo");
         }
         due(x, 1, "of", 0, 0);

@@ -31,10 +31,17 @@ final class SearchBoundaries extends TestKit {
         }
     }
 
+    /** Each is asked behind another thing, so that none lives on what was left there. */
     private static void steps(SubgraphDesk x, int search0, int search1, int search2) {
-        due(x, search0, "steps", 0);
-        due(x, search1, "steps", 1);
+        ask(x, "candidates", 0, 0);
         due(x, search2, "steps", 2);
+        due(x, search0, "steps", 0);
+        due(x, search2, "steps", 2);
+        ask(x, "candidates", 0, 1);
+        due(x, search1, "steps", 1);
+        due(x, search0, "steps", 0);
+        ask(x, "candidates", 0, 9);
+        due(x, search1, "steps", 1);
     }
 
     /** How many ways are laid behind n steps: all those that are laid at these steps. */
@@ -186,6 +193,10 @@ final class SearchBoundaries extends TestKit {
         // 0 alone, then 2, 1, 3: 3 is asked first, 1 is asked while 2 is on 0
         candidates(x, 1, 1, 6, 0, 0);
         candidates(x, 2, 1, 0, 0, 0);
+        SubgraphDesk y = desk("2 2 2", "1-2", "6 1 1", "0-2");
+        candidates(y, 0, 6, 0, 0);
+        // 1 alone, then 2, 0: 0 goes by 2, that is on none
+        candidates(y, 1, 0, 0, 0);
     }
 
     static void p29_oneRowForAllPasses() {
@@ -273,6 +284,11 @@ final class SearchBoundaries extends TestKit {
         laidAt(taken, 3, 4, 7, 8);
         SubgraphDesk one = desk("1 3", "", "6 1", "");
         steps(one, 3, 3, 2);
+        SubgraphDesk wide = desk(12, 2);
+        forced(wide, "bars if vertex = 1 and node = 11");
+        steps(wide, 12 + 11 * 10 + 11, 12 + 11 * 10 + 11, 11 + 11 * 11);
+        forced(wide, "bars if vertex = 0 and node = 11");
+        steps(wide, 11 + 11 * 11, 11 + 11 * 11, 11 + 11 * 11);
     }
 
     static void p30_theLowestOfThose() {
@@ -304,6 +320,7 @@ final class SearchBoundaries extends TestKit {
         due(x, 1, "within", 0);
         due(x, 1, "within", 9999);
         due(x, -1, "within", 10000);
+        due(x, -1, "within", -1);
         due(desk(3, 0), 1, "within", 0);
         due(desk(0, 1), 0, "within", 0);
         due(desk(0, 1), 0, "within", 9999);
@@ -315,6 +332,7 @@ final class SearchBoundaries extends TestKit {
         laidAt(x, 2, 3, 5, 7);
         SubgraphDesk y = desk(2, 3);
         due("two of three lie", ask(y, "within", 9999), 0);
+        due(y, -1, "within", -1);
         due("2 + 2", ask(y, "steps", 2), 4);
     }
 

@@ -92,6 +92,17 @@ final class SightBoundaries extends TestKit {
         due(x, 2, "fitting");
     }
 
+    static void p36_itLeavesWhatCanBeUndone() {
+        sentence("(nothing that was ahead of a node(), vertex(), terms(), row(), back() that was not REFUSED can be undone)");
+        SubgraphDesk x = path();
+        ask(x, "seen", 0, 0);
+        due(x, 4, "count", 6);
+        ask(x, "forget");
+        due(x, 4, "count", 6);
+        due(x, 1, "undo");
+        due(x, 0, "count", 4);
+    }
+
     static void p36_itIsNeverRefused() {
         sentence("0 if it was not, or ahead of any.");
         SubgraphDesk x = new SubgraphDesk();

@@ -188,6 +188,22 @@ final class WayBoundaries extends TestKit {
         due("1-0, 1-2, 2-3 (3-2 comes behind it)", ask(x, "once"), 3);
     }
 
+    static void p25_rowsThatAreNoWaysAsideOfFourVertices() {
+        sentence("(rows that are no WAYS aside)");
+        SubgraphDesk x = desk(5, 4);
+        forced(x, "bars if [vertex * 3 + node * 2] % 4 = 1");
+        due(x, 36, "ways");
+        due(x, 5, "once");
+        int[] rows = {213, 241, 243, 413, 1243};
+        for (int i = 0; i < rows.length; i++) {
+            long row = ask(x, "onceWay", i, 0);
+            for (int v = 1; v < 4; v++) {
+                row = row * 10 + ask(x, "onceWay", i, v);
+            }
+            due("onceWay " + i, row, rows[i]);
+        }
+    }
+
     static void p25_bySomeSymmetryEachLiesWhereThatForItLay() {
         sentence("if by some SYMMETRY each VERTEX lies where that for it lay");
         SubgraphDesk x = desk(4, 3);
