@@ -1289,17 +1289,39 @@ public final class SubgraphDesk {
         }
 
         private boolean readPlain(int depth) {
-            // a row of "not" is counted, not nested: it could stand a hundred deep
+            boolean turned = readNots();
+            if (tape.isSign('(')) {
+                if (!readInBrackets(depth)) {
+                    return false;
+                }
+            } else {
+                if (!readSum(depth)) {
+                    return false;
+                }
+                int comparison = comparisonHere();
+                if (comparison == NONE) {
+                    return fail();
+                }
+                tape.step();
+                if (!readSum(depth)) {
+                    return false;
+                }
+                draft.emit(comparison, 0);
+            }
+            if (turned) {
+                draft.emit(Program.NOT, 0);
+            }
+            return true;
+        }
+
+        /** Whether they turn what comes; counted, not nested, as a hundred could stand in a row. */
+        private boolean readNots() {
             boolean turned = false;
             for (int i = 0; i < TAPE_MOST && tape.isWord("not"); i++) {
                 tape.step();
                 turned = !turned;
             }
-            boolean good = tape.isSign('(') ? readInBrackets(depth) : readSum(depth) && readOtherSum(depth);
-            if (good && turned) {
-                draft.emit(Program.NOT, 0);
-            }
-            return good;
+            return turned;
         }
 
         private boolean readInBrackets(int depth) {
@@ -1314,20 +1336,6 @@ public final class SubgraphDesk {
                 return fail();
             }
             tape.step();
-            return true;
-        }
-
-        /** What the sum that was read is compared with. */
-        private boolean readOtherSum(int depth) {
-            int operation = comparisonHere();
-            if (operation == NONE) {
-                return fail();
-            }
-            tape.step();
-            if (!readSum(depth)) {
-                return false;
-            }
-            draft.emit(operation, 0);
             return true;
         }
 
@@ -1384,10 +1392,7 @@ public final class SubgraphDesk {
             return tape.isSign('%') ? Program.REST : NONE;
         }
 
-        private boolean readPart(int depth) {
-            if (!tape.isSign('[')) {
-                return readSingle();
-            }
+        private boolean readSumInBrackets(int depth) {
             if (depth >= BRACKETS_MOST) {
                 return fail();
             }
@@ -1402,7 +1407,10 @@ public final class SubgraphDesk {
             return true;
         }
 
-        private boolean readSingle() {
+        private boolean readPart(int depth) {
+            if (tape.isSign('[')) {
+                return readSumInBrackets(depth);
+            }
             if (parts >= PARTS_MOST) {
                 return fail();
             }
