@@ -201,6 +201,24 @@ final class OrderBoundaries extends TestKit {
         paints(x, "paint 0 as ways", 0);
     }
 
+    static void p14_waysOfOneVertex() {
+        sentence("ways: how many WAYS then");
+        SubgraphDesk x = desk(4, 1);
+        paints(x, "paint 0 as ways", 4);
+        paints(x, "paint 0 as ways; paint 1 as 2; paint 0 as ways", 2);
+    }
+
+    static void p14_waysAtTheHeadOfTheText() {
+        sentence("ways: how many WAYS then");
+        SubgraphDesk x = desk(4, 1);
+        due("orders", orders(x, "paint ways - 1 as 5"), 1);
+        due(x, 5, "of", 3, 0);
+        due("orders", orders(x, "join ways to 0"), 1);
+        due(x, 3, "came", 0);
+        due("orders", orders(x, "paint 3 as 1; paint ways - 1 as 0"), 2);
+        due(x, 0, "of", 3, 0);
+    }
+
     static void p14_waysWithoutVerticesAndWithoutNodes() {
         sentence("without VERTICES there is one");
         SubgraphDesk x = desk(2, 0);

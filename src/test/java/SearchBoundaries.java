@@ -236,6 +236,14 @@ final class SearchBoundaries extends TestKit {
         steps(desk(1, 2), 1, 1, 1);
     }
 
+    static void p30_oneVertexOnEachNode() {
+        sentence("a STEP is a VERTEX laid on a NODE that is not taken");
+        SubgraphDesk x = desk(12, 1);
+        steps(x, 12, 12, 12);
+        ask(x, "paint", 0, 0);
+        steps(x, 11, 11, 11);
+    }
+
     static void p30_theMost() {
         sentence("all are tried, rising; behind each one goes on with the next VERTEX, then it is taken up again.");
         int most = 12 + 132 + 1320 + 11880 + 95040;
@@ -334,6 +342,16 @@ final class SearchBoundaries extends TestKit {
         due("two of three lie", ask(y, "within", 9999), 0);
         due(y, -1, "within", -1);
         due("2 + 2", ask(y, "steps", 2), 4);
+    }
+
+    static void p31_oneVertexOnEachNode() {
+        sentence("WITHIN n STEPS: how many WAYS Search 2 has laid wholly behind its first n STEPS.");
+        SubgraphDesk x = desk(12, 1);
+        for (int n = 0; n <= 12; n++) {
+            due(x, n, "within", n);
+        }
+        due(x, 12, "within", 13);
+        due(x, 12, "within", 9999);
     }
 
     static void p31_moreStepsThanCanBeAsked() {

@@ -144,6 +144,16 @@ final class SightBoundaries extends TestKit {
         due(desk(1, 2), 0, "fitting");
     }
 
+    static void p37_oneVertexOnEachNode() {
+        sentence("FITTING: WAYS by which all that was SEEN is so.");
+        SubgraphDesk x = desk(12, 1);
+        due(x, 12, "fitting");
+        ask(x, "seen", 0, 11);
+        due(x, 1, "fitting");
+        ask(x, "seen", 0, 0);
+        due(x, 0, "fitting");
+    }
+
     static void p37_theMost() {
         sentence("How many WAYS are FITTING.");
         SubgraphDesk x = desk(12, 5);
@@ -214,6 +224,16 @@ final class SightBoundaries extends TestKit {
         due(x, 1, "look", 1);
         ask(x, "seen", 1, 3);
         due("one way is left: all lie in it", ask(x, "look", 0), 0);
+        due(x, 1, "look", 1);
+    }
+
+    static void p38_oneVertexOnEachNode() {
+        sentence("To LOOK at: the VERTEX (what 0), how many WAYS are left at most (1).");
+        SubgraphDesk x = desk(12, 1);
+        due(x, 0, "look", 0);
+        due(x, 1, "look", 1);
+        ask(x, "seen", 0, 11);
+        due(x, 0, "look", 0);
         due(x, 1, "look", 1);
     }
 

@@ -38,6 +38,18 @@ final class WayBoundaries extends TestKit {
         due(desk(6, 5), 720, "ways");
     }
 
+    static void p23_oneVertexOnEachNode() {
+        sentence("A WAY: a row of different NODES by VERTICES, each VERTEX on one on which it MAY lie");
+        for (int nodes = 1; nodes <= 12; nodes++) {
+            due(nodes + " nodes", ask(desk(nodes, 1), "ways"), nodes);
+        }
+        SubgraphDesk x = desk(12, 1);
+        ask(x, "paint", 3, 0);
+        due("all but 3", ask(x, "ways"), 11);
+        forced(x, "bars if node > 8");
+        due("all but 3, 9, 10, 11", ask(x, "ways"), 8);
+    }
+
     static void p23_theMost() {
         sentence("How many WAYS there are.");
         SubgraphDesk x = desk(12, 5);
@@ -128,6 +140,20 @@ final class WayBoundaries extends TestKit {
         }
     }
 
+    static void p24_oneVertexOnEachNode() {
+        sentence("The NODE of a VERTEX in the i-th WAY. NONE.");
+        SubgraphDesk x = desk(12, 1);
+        for (int i = 0; i < 12; i++) {
+            due(x, i, "way", i, 0);
+        }
+        none(x, "way", 12, 0);
+        ask(x, "paint", 3, 0);
+        due(x, 2, "way", 2, 0);
+        due(x, 4, "way", 3, 0);
+        due(x, 11, "way", 10, 0);
+        none(x, "way", 11, 0);
+    }
+
     static void p24_theLastOfTheMost() {
         sentence("WAYS are in the order of their rows");
         SubgraphDesk x = desk(12, 5);
@@ -158,6 +184,14 @@ final class WayBoundaries extends TestKit {
         due(desk(0, 2), 0, "once");
         due(desk(1, 2), 0, "once");
         due(desk(1, 1), 1, "once");
+    }
+
+    static void p25_oneVertexOnEachNode() {
+        sentence("How many WAYS there are ONCE.");
+        SubgraphDesk x = desk(12, 1);
+        due(x, 12, "once");
+        ask(x, "paint", 0, 0);
+        due(x, 11, "once");
     }
 
     static void p25_theMost() {
@@ -245,6 +279,15 @@ final class WayBoundaries extends TestKit {
         due(new SubgraphDesk(), -1, "onceWay", 0, 0);
         due(desk(2, 0), -1, "onceWay", 0, -1);
         due(desk(1, 2), -1, "onceWay", 0, 0);
+    }
+
+    static void p26_oneVertexOnEachNode() {
+        sentence("The NODE of a VERTEX in the i-th of the WAYS there are ONCE. NONE.");
+        SubgraphDesk x = desk(12, 1);
+        ask(x, "paint", 0, 0);
+        due(x, 1, "onceWay", 0, 0);
+        due(x, 11, "onceWay", 10, 0);
+        none(x, "onceWay", 11, 0);
     }
 
     static void p26_theLastOfTheMost() {
@@ -353,6 +396,19 @@ final class WayBoundaries extends TestKit {
         due(x, 495, "best", -1);
     }
 
+    static void p28_oneVertexOnEachNode() {
+        sentence("The WAY of the least COST, the first");
+        SubgraphDesk x = desk(12, 1);
+        due(x, 1, "best", -1);
+        due(x, 0, "best", 0);
+        forced(x, "costs 20 - node");
+        due(x, 9, "best", -1);
+        due(x, 11, "best", 0);
+        forced(x, "costs 20 - node / 2");
+        due(x, 15, "best", -1);
+        due("10 ahead of 11", ask(x, "best", 0), 10);
+    }
+
     static void p28_noWay() {
         sentence("NONE (there is none; others).");
         SubgraphDesk x = path();
@@ -401,6 +457,16 @@ final class WayBoundaries extends TestKit {
         due(x, 64, "ways");
         due(x, 60, "sets", 60);
         due(x, 59, "sets", 59);
+    }
+
+    static void p33_oneVertexOnEachNode() {
+        sentence("SETS: how many different sets of NODES the first n WAYS (all, if they are fewer) lie on.");
+        SubgraphDesk x = desk(12, 1);
+        for (int n = 0; n <= 12; n++) {
+            due(x, n, "sets", n);
+        }
+        due(x, 12, "sets", 13);
+        due(x, 12, "sets", 60);
     }
 
     static void p33_theSameSetAgainIsNoOther() {
@@ -496,6 +562,14 @@ final class WayBoundaries extends TestKit {
         ask(x, "vertex", 1);
         due(x, -1, "compare", -1);
         due(x, -1, "compare", 0);
+    }
+
+    static void p40_oneVertexOnEachNode() {
+        sentence("COMPARED: the least COST of a WAY by a LAW (what is BARRED, too)");
+        SubgraphDesk x = desk(12, 1);
+        law(x, "costs 20 - node; bars if node = 11");
+        due(x, 1, "compare", -1);
+        due("10 is the last that is not barred", ask(x, "compare", 0), 10);
     }
 
     static void p40_allSixLaws() {
