@@ -1,10 +1,10 @@
 import java.lang.reflect.Method;
-import java.nio.file.Files;
-import java.nio.file.Path;
 import java.util.ArrayList;
 import java.util.Arrays;
 import java.util.Comparator;
 import java.util.List;
+import java.util.regex.Matcher;
+import java.util.regex.Pattern;
 
 /**
  * A test for each sentence of the document that names a boundary. The name of a test begins with the
@@ -13,16 +13,15 @@ import java.util.List;
 public final class BoundaryTests extends TestKit {
     private static final Class<?>[] GROUPS = {
         GraphBoundaries.class, ActBoundaries.class, TapeBoundaries.class, LawBoundaries.class, OrderBoundaries.class,
-        WayBoundaries.class, SearchBoundaries.class, SightBoundaries.class, ImageBoundaries.class
+        WayBoundaries.class, SearchBoundaries.class, SightBoundaries.class, ImageBoundaries.class, StoryBoundaries.class
     };
-    private static final Path DOCUMENT = Path.of("../shared/DOC.md");
     private static final int PROMISES = 46;
 
     private static String document = "";
     private static boolean[] isQuoted = new boolean[0];
 
     public static void main(String[] args) throws Exception {
-        document = folded(Files.readString(DOCUMENT));
+        document = folded(Document.text());
         isQuoted = new boolean[document.length()];
         int tests = 0;
         for (Class<?> group : GROUPS) {
@@ -31,9 +30,7 @@ public final class BoundaryTests extends TestKit {
         for (int promise = 1; promise <= PROMISES; promise++) {
             lookAtPromise(promise);
         }
-        if (args.length > 0) {
-            tellUnquoted();
-        }
+        lookAtTheRest();
         System.out.println(tests + " tests of boundaries");
         finish();
     }
@@ -89,15 +86,29 @@ public final class BoundaryTests extends TestKit {
         }
     }
 
-    private static void tellUnquoted() {
+    /** Each sentence must be quoted; LanguageCheck looks at the face and the signatures. */
+    private static void lookAtTheRest() {
+        at("the document");
+        passOver("# SubgraphDesk ## What it is");
+        passOver("## The public face java public final class SubgraphDesk \\{.*?\\} ## Terms");
+        passOver("## Promise \\d+: [\\w ]+ `[^`]+`:");
+        passOver("## Not promised .*");
+        passOver("\\bI{1,3}V?\\. ");
         int from = 0;
         for (int i = 0; i <= isQuoted.length; i++) {
             if (i == isQuoted.length || isQuoted[i]) {
-                if (i - from > 3) {
-                    System.out.println("not quoted: " + document.substring(from, i));
+                if (!document.substring(from, i).matches("\\W*")) {
+                    bad("no test quotes: " + document.substring(from, i));
                 }
                 from = i + 1;
             }
+        }
+    }
+
+    private static void passOver(String headings) {
+        Matcher m = Pattern.compile(headings).matcher(document);
+        while (m.find()) {
+            Arrays.fill(isQuoted, m.start(), m.end(), true);
         }
     }
 }

@@ -107,7 +107,7 @@ final class GraphBoundaries extends TestKit {
     }
 
     static void p01_theConstantIsBelowAllNumbers() {
-        sentence("`NONE = -1`: There is none.");
+        sentence("The constants: `NONE = -1`: There is none.");
         due("NONE", SubgraphDesk.NONE, -1);
     }
 

@@ -520,7 +520,7 @@ final class ImageBoundaries extends TestKit {
     }
 
     static void p45_upToTheLastCall() {
-        sentence("An object is used for at most 512 calls after it has been made");
+        sentence("An object is used for at most 512 calls after it has been made; what later calls answer is free.");
         SubgraphDesk x = new SubgraphDesk();
         for (int i = 0; i < 255; i++) {
             ask(x, "undo");

@@ -1,3 +1,4 @@
+import java.lang.reflect.Constructor;
 import java.lang.reflect.Field;
 import java.lang.reflect.Method;
 import java.lang.reflect.Modifier;
@@ -13,11 +14,6 @@ import java.util.regex.Pattern;
 /** Looks whether SubgraphDesk.java keeps to ../shared/LANGUAGE.md, as far as a short look can tell. */
 public final class LanguageCheck {
     private static final String SOURCE = "src/main/java/SubgraphDesk.java";
-    private static final String FACE = "node(int) vertex(int) of(int,int) at(int,int) lay(int,int,int) came(int) terms(int,int) "
-        + "feed(int,int,int,int,int) end(int) row() smudges() law() orders() fault() stopped() force(int) edge(int,int) "
-        + "link(int,int) paint(int,int) dye(int,int) undo() ways() way(int,int) once() onceWay(int,int) symmetries() best(int) "
-        + "candidates(int,int) steps(int) within(int) kind(int,int) sets(int) touched() seen(int,int) forget() fitting() "
-        + "look(int) few(int,int) compare(int) days(int,int) drawn(int,int) image(int) back(int) count(int) status()";
 
     private static int wrong;
 
@@ -69,46 +65,67 @@ public final class LanguageCheck {
         }
     }
 
-    private static void face() {
-        Set<String> due = new TreeSet<>(List.of(FACE.split(" ")));
+    /** As the document writes it, without the names of what is given: "int of(int, int)". */
+    private static String told(String shown) {
+        return shown.replaceAll("(\\w+) \\w+(?=[,)])", "$1");
+    }
+
+    private static String told(Class<?> answer, String name, Class<?>[] given) {
+        StringBuilder b = new StringBuilder();
+        for (Class<?> one : given) {
+            b.append(b.length() > 0 ? ", " : "").append(one.getName());
+        }
+        return (answer == null ? "" : answer.getName() + " ") + name + "(" + b + ")";
+    }
+
+    private static void face() throws Exception {
+        Set<String> due = new TreeSet<>();
+        for (String line : Document.face()) {
+            due.add(told(line));
+        }
         Set<String> is = new TreeSet<>();
+        is.add("static final int NONE = " + SubgraphDesk.NONE);
+        for (Constructor<?> c : SubgraphDesk.class.getDeclaredConstructors()) {
+            is.add(told(null, "SubgraphDesk", c.getParameterTypes()));
+            if (!Modifier.isPublic(c.getModifiers())) {
+                bad("1", c + " is not public");
+            }
+        }
         for (Method m : SubgraphDesk.class.getDeclaredMethods()) {
             if (Modifier.isPublic(m.getModifiers())) {
-                StringBuilder b = new StringBuilder();
-                for (Class<?> p : m.getParameterTypes()) {
-                    b.append(b.length() > 0 ? "," : "").append(p.getName());
-                }
-                is.add(m.getName() + "(" + b + ")");
-                Class<?> told = m.getName().equals("few") ? long.class : int.class;
-                if (m.getReturnType() != told || Modifier.isStatic(m.getModifiers())) {
-                    bad("1", m.toString());
-                }
+                is.add((Modifier.isStatic(m.getModifiers()) ? "static " : "")
+                    + told(m.getReturnType(), m.getName(), m.getParameterTypes()));
             } else if (!Modifier.isPrivate(m.getModifiers())) {
                 bad("1", m + " is neither public nor private");
             }
         }
         if (!due.equals(is)) {
-            bad("1", "the face is " + is);
+            bad("1", "the face is " + is + ", the document's is " + due);
         }
         for (Field f : SubgraphDesk.class.getDeclaredFields()) {
-            if (!Modifier.isPrivate(f.getModifiers()) && !f.getName().equals("NONE")) {
+            boolean isNone = f.getName().equals("NONE");
+            if (!Modifier.isPrivate(f.getModifiers()) && !isNone) {
+                bad("1", f.toString());
+            }
+            int constant = Modifier.PUBLIC | Modifier.STATIC | Modifier.FINAL;
+            if (isNone && (f.getModifiers() != constant || f.getType() != int.class)) {
                 bad("1", f.toString());
             }
         }
         int m = SubgraphDesk.class.getModifiers();
-        if (!Modifier.isPublic(m) || !Modifier.isFinal(m) || SubgraphDesk.class.getDeclaredConstructors().length != 1) {
-            bad("1", "the class is not public and final with one constructor");
+        if (!Modifier.isPublic(m) || !Modifier.isFinal(m)) {
+            bad("1", "the class is not public and final");
         }
     }
 
-    private static void classes() {
+    private static void classes() throws Exception {
         Class<?>[] inside = SubgraphDesk.class.getDeclaredClasses();
         if (inside.length + 1 > 12) {
             bad("11", inside.length + 1 + " classes");
         }
         Set<String> names = new TreeSet<>();
-        for (String call : FACE.split(" ")) {
-            names.add(call.substring(0, call.indexOf('(')));
+        for (Document.Promise p : Document.promises()) {
+            names.add(p.name());
         }
         List<Class<?>> all = new ArrayList<>(List.of(inside));
         all.add(SubgraphDesk.class);

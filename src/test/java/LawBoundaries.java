@@ -287,7 +287,7 @@ final class LawBoundaries extends TestKit {
     }
 
     static void p13_twelveClauses() {
-        sentence("CLAUSE {\";\" CLAUSE}, 12 at most (FAULT at the 13th's first TOKEN).");
+        sentence("Of both languages: CLAUSE {\";\" CLAUSE}, 12 at most (FAULT at the 13th's first TOKEN).");
         costs(repeat("costs 3;", 11) + "costs 4", 4);
         fault(repeat("costs 3;", 12) + "costs 4", 96);
         fault(repeat("costs 3;", 12) + "  costs 4", 98);

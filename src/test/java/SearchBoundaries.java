@@ -87,7 +87,7 @@ final class SearchBoundaries extends TestKit {
     }
 
     static void p29_atFirstAsManyEdgesAsLinksAtLeast() {
-        sentence("at first NODES on which it MAY lie and that have as many EDGES as it has LINKS at least.");
+        sentence("CANDIDATES of a VERTEX behind n PASSES: at first NODES on which it MAY lie and that have as many EDGES as it has LINKS at least.");
         SubgraphDesk x = desk(5, 4);
         edges(x, 0, 1, 0, 2, 0, 3, 1, 2);
         candidates(x, 0, 31, 31, 31, 31);
@@ -229,7 +229,7 @@ final class SearchBoundaries extends TestKit {
     }
 
     static void p30_withoutNodesThereAreNone() {
-        sentence("a STEP is a VERTEX laid on a NODE that is not taken");
+        sentence("STEPS of a search: a STEP is a VERTEX laid on a NODE that is not taken");
         steps(desk(0, 1), 0, 0, 0);
         steps(desk(0, 5), 0, 0, 0);
         steps(desk(1, 1), 1, 1, 1);

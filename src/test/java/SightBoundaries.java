@@ -287,7 +287,8 @@ final class SightBoundaries extends TestKit {
     }
 
     static void p39_bothAreCut() {
-        sentence("each part times the rest by ten and times SLIPS by ten (one more), both cut; of those below k all together.");
+        sentence("mark by mark, by how many did, each part times the rest by ten and times SLIPS by ten (one more), both cut; "
+            + "of those below k all together.");
         SubgraphDesk x = new SubgraphDesk();
         due(x, 254_186_582_832L, "few", 1, 13);
         due(x, 621_344_980_257L, "few", 2, 13);
